@@ -1,0 +1,496 @@
+/** Promises 13 to 19: nights. */
+public final class NightsTest {
+    private static final int BAD = Due.BAD, NOT = Due.NOT, STATE = Due.STATE;
+    private static final Due due = new Due("NightsTest");
+
+    public static void main(String[] args) {
+        mayAndHad();
+        mayAndRest();
+        mayAndShy();
+        change();
+        longestWays();
+        longestUnderRules();
+        wished();
+        game();
+        gameUnderRules();
+        waysOfFewLamps();
+        waysOfManyLamps();
+        judgeRefuses();
+        judgeFinds();
+        judgeUnderRules();
+        thoughtChangesNothing();
+        due.end();
+    }
+
+    private static OneLamp of(int lamps, String changed) {
+        OneLamp x = new OneLamp();
+        x.lamps(lamps);
+        Due.change(x, changed);
+        return x;
+    }
+
+    private static void mayAndHad() {
+        due.of("promise 13");
+        OneLamp x = new OneLamp();
+        due.is("may()", x.may(), 7);
+        x.bar(2);
+        due.is("may() with 2 barred", x.may(), 5);
+        Due.law(x, "p=4");
+        due.is("may() with 4 barred by law", x.may(), 1);
+        Due.change(x, "0");
+        due.is("may() at 1", x.may(), 6);
+        Due.change(x, "1");
+        due.is("may() at 3", x.may(), 4);
+        Due.change(x, "2");
+        due.is("may() at 7", x.may(), 3);
+        due.is("a whole way", Due.change(new OneLamp(), "0102010"), 4);
+        due.is("may() behind it", of(3, "0102010").may(), 0);
+        due.is("may() of 10 lamps", of(10, "").may(), 1023);
+        due.is("may() of 10 lamps", of(10, "9").may(), 511);
+        due.is("may() of 1 lamp", of(1, "").may(), 1);
+        due.is("may() of 1 lamp", of(1, "0").may(), 0);
+    }
+
+    private static void mayAndRest() {
+        due.of("promise 13, rest");
+        OneLamp x = of(4, "012");
+        int[] want = {11, 11, 9, 8, 8, 8, 8, 8, 8, 8};
+        for (int rest = 0; rest < 10; rest++) {
+            x.set(0, rest);
+            due.is("may() with rest " + rest, x.may(), want[rest]);
+        }
+        x = of(4, "01");
+        int[] then = {13, 13, 12, 12};
+        for (int rest = 0; rest < 4; rest++) {
+            x.set(0, rest);
+            due.is("may() with rest " + rest, x.may(), then[rest]);
+        }
+        x.set(0, 2);
+        due.is("change(0) that rests", x.change(0), NOT);
+        due.is("change(2)", x.change(2), 7);
+        due.is("change(0) that has rested", x.change(0), 6);
+        x.begin(0);
+        due.is("none has been changed", x.may(), 15);
+        x = of(3, "");
+        x.set(0, 9);
+        due.is("all may at the beginning", x.may(), 7);
+        x.change(1);
+        due.is("may()", x.may(), 5);
+    }
+
+    private static void mayAndShy() {
+        due.of("promise 13, shy");
+        OneLamp x = of(3, "01");
+        due.is("not shy", x.may(), 5);
+        x.set(1, 1);
+        due.is("2 is beside 0", x.may(), 4);
+        due.is("change(0)", x.change(0), NOT);
+        due.is("change(2)", x.change(2), 7);
+        due.is("5 is beside 1", x.may(), 1);
+        due.is("change(0)", x.change(0), 6);
+        due.is("4 and 2 are beside 0", x.may(), 0);
+        x.set(1, 0);
+        due.is("not shy", x.may(), 6);
+        x = of(4, "");
+        x.set(1, 1);
+        due.is("only the one it is at", x.may(), 15);
+        Due.change(x, "3");
+        due.is("9 10 12 are beside none but 8", x.may(), 7);
+        x = of(10, "98");
+        x.set(1, 1);
+        due.is("256 is beside 0", x.may(), 255);
+    }
+
+    private static void change() {
+        due.of("promise 14");
+        OneLamp x = new OneLamp();
+        for (int l : new int[] {-1, 3, 10, 31, 32, Due.LOW, Due.HIGH}) {
+            due.is("change(" + l + ")", x.change(l), BAD);
+        }
+        x.cost(1, 4);
+        due.is("change(1)", x.change(1), 2);
+        due.is("change(1), had", x.change(1), NOT);
+        due.is("night", x.now(2), 1);
+        due.is("spent", x.now(4), 4);
+        due.is("often", x.lamp(1, 1), 1);
+        due.is("last", x.lamp(1, 2), 1);
+        due.is("had", x.picture(2, 0), 1);
+        x.bar(6);
+        due.is("change(2), barred", x.change(2), NOT);
+        due.is("change(3) at last", x.change(3), BAD);
+        due.is("change(0)", x.change(0), 3);
+        due.is("change(2)", x.change(2), 7);
+        due.is("change(1)", x.change(1), 5);
+        due.is("change(0)", x.change(0), 4);
+        due.is("change(2), had", x.change(2), NOT);
+        due.is("change(1), barred", x.change(1), NOT);
+        due.is("night", x.now(2), 5);
+        due.is("how many had", x.now(3), 6);
+        due.is("spent", x.now(4), 11);
+        x = of(10, "");
+        due.is("change(9)", x.change(9), 512);
+        due.is("change(0)", x.change(0), 513);
+        due.is("change(9)", x.change(9), 1);
+    }
+
+    private static void isLongest(OneLamp x, String way) {
+        due.is("longest(-1)", x.longest(-1), way.length());
+        for (int i = 0; i < way.length(); i++) {
+            due.is("longest(" + i + ")", x.longest(i), way.charAt(i) - '0');
+        }
+        due.is("longest(" + way.length() + ")", x.longest(way.length()), BAD);
+        due.is("longest(HIGH)", x.longest(Due.HIGH), BAD);
+        due.is("longest(-2)", x.longest(-2), BAD);
+        due.is("longest(LOW)", x.longest(Due.LOW), BAD);
+        due.is("longest(-1) again", x.longest(-1), way.length());
+    }
+
+    private static void longestWays() {
+        due.of("promise 15");
+        isLongest(of(1, ""), "0");
+        isLongest(of(1, "0"), "");
+        isLongest(of(2, ""), "010");
+        isLongest(of(2, "1"), "01");
+        isLongest(of(3, ""), "0102010");
+        isLongest(of(3, "0102"), "010");
+        isLongest(of(3, "012"), "1012");
+        isLongest(of(4, ""), "010201030102010");
+        isLongest(of(4, "3"), "01020103010201");
+        OneLamp x = of(3, "");
+        x.begin(5);
+        isLongest(x, "0102010");
+        x = of(5, "");
+        due.is("5 lamps: longest(-1)", x.longest(-1), STATE);
+        due.is("5 lamps: longest(0)", x.longest(0), STATE);
+        due.is("5 lamps: longest(99)", x.longest(99), STATE);
+        due.is("5 lamps: longest(-2)", x.longest(-2), BAD);
+    }
+
+    private static void longestUnderRules() {
+        due.of("promise 15, under rules");
+        OneLamp x = of(3, "");
+        x.bar(1);
+        isLongest(x, "102010");
+        x.bar(7);
+        isLongest(x, "1210");
+        x.bar(2);
+        isLongest(x, "20");
+        x.bar(4);
+        isLongest(x, "");
+        x = of(3, "");
+        Due.law(x, "l=3");
+        isLongest(x, "010210");
+        x = of(3, "");
+        x.set(1, 1);
+        isLongest(x, "0120");
+        x = of(4, "");
+        x.set(1, 1);
+        isLongest(x, "0120310");
+        x = of(3, "");
+        x.set(0, 1);
+        isLongest(x, "0102010");
+        x.set(0, 2);
+        isLongest(x, "01201");
+        x.set(0, 3);
+        isLongest(x, "012");
+        Due.change(x, "1");
+        isLongest(x, "02");
+        x = of(4, "");
+        x.set(0, 9);
+        isLongest(x, "0123");
+    }
+
+    private static void areWished(OneLamp x, int... want) {
+        for (int t = 0; t < 16; t++) {
+            due.is("wished(" + t + ")", x.wished(t), t < want.length ? want[t] : 0);
+        }
+        due.is("wished(-1)", x.wished(-1), BAD);
+        due.is("wished(16)", x.wished(16), BAD);
+        due.is("wished(LOW)", x.wished(Due.LOW), BAD);
+        due.is("wished(HIGH)", x.wished(Due.HIGH), BAD);
+    }
+
+    private static void wished() {
+        due.of("promise 16");
+        areWished(of(1, ""), 1, 2);
+        areWished(of(1, "0"), 2);
+        areWished(of(2, ""), 1, 6, 8, 6);
+        areWished(of(2, "1"), 4, 8, 2);
+        int odd = 1 << 1 | 1 << 2 | 1 << 4 | 1 << 7;
+        int even = 1 << 3 | 1 << 5 | 1 << 6;
+        areWished(of(3, ""), 1, 22, even, odd, even, odd, even, odd);
+        OneLamp x = of(3, "");
+        x.set(1, 1);
+        areWished(x, 1, 22, even, 128, even);
+        x.set(1, 0);
+        x.set(0, 2);
+        areWished(x, 1, 22, even, 128, even, 22);
+        x.set(0, 3);
+        areWished(x, 1, 22, even, 128);
+        x.set(0, 0);
+        x.bar(1);
+        x.bar(7);
+        areWished(x, 1, 20, 64 + 8 + 32, 20, 8 + 32);
+        x.begin(1);
+        due.is("it is at a barred one", x.wished(0), 2);
+        x = of(5, "");
+        for (int t = 0; t < 16; t++) {
+            due.is("5 lamps: wished(" + t + ")", x.wished(t), STATE);
+        }
+        due.is("5 lamps: wished(16)", x.wished(16), BAD);
+        due.is("5 lamps: wished(-1)", x.wished(-1), BAD);
+    }
+
+    private static void wins(OneLamp x, int lamp) {
+        due.is("game(0)", x.game(0), lamp == NOT ? 0 : 1);
+        due.is("game(1)", x.game(1), lamp);
+    }
+
+    private static void game() {
+        due.of("promise 17");
+        OneLamp x = of(2, "");
+        for (int what : new int[] {-1, 2, Due.LOW, Due.HIGH}) {
+            due.is("game(" + what + ")", x.game(what), BAD);
+        }
+        wins(of(1, ""), 0);
+        wins(of(1, "0"), NOT);
+        wins(of(2, ""), 0);
+        wins(of(2, "0"), NOT);
+        wins(of(2, "01"), 0);
+        wins(of(2, "10"), 1);
+        wins(of(2, "010"), NOT);
+        wins(of(3, ""), 0);
+        wins(of(3, "0"), NOT);
+        wins(of(4, ""), 0);
+        wins(of(4, "0"), NOT);
+        wins(of(4, "012"), NOT);
+        x = of(5, "");
+        due.is("5 lamps: game(0)", x.game(0), STATE);
+        due.is("5 lamps: game(1)", x.game(1), STATE);
+        due.is("5 lamps: game(2)", x.game(2), BAD);
+        due.is("5 lamps: game(-1)", x.game(-1), BAD);
+    }
+
+    private static void gameUnderRules() {
+        due.of("promise 17, under rules");
+        OneLamp x = of(3, "");
+        Due.law(x, "p=2|p>4");
+        wins(x, 2);
+        x.bar(4);
+        wins(x, NOT);
+        x.bar(3);
+        wins(x, 0);
+        x.bar(1);
+        wins(x, NOT);
+        x = of(3, "");
+        x.set(1, 1);
+        wins(x, NOT);
+        x.set(0, 2);
+        wins(x, NOT);
+        x.set(1, 0);
+        wins(x, 0);
+        x.set(0, 3);
+        wins(x, 0);
+        Due.change(x, "0");
+        wins(x, NOT);
+        x = of(2, "");
+        x.set(0, 2);
+        wins(x, NOT);
+        x.change(1);
+        wins(x, 0);
+        x = of(4, "");
+        x.set(0, 9);
+        wins(x, NOT);
+    }
+
+    private static void waysOfFewLamps() {
+        due.of("promise 18");
+        OneLamp x = of(3, "");
+        int[][] refused = {{-1, 0}, {8, 0}, {0, -1}, {0, 6}, {8, 6}, {Due.LOW, 1}, {Due.HIGH, 1}, {1, Due.HIGH},
+            {1, Due.LOW}};
+        for (int[] pair : refused) {
+            due.is("ways(" + pair[0] + ", " + pair[1] + ")", x.ways(pair[0], pair[1]), BAD);
+        }
+        for (int p = 0; p < 8; p++) {
+            for (int m = 0; m < 6; m++) {
+                due.is("ways(" + p + ", " + m + ")", x.ways(p, m), waysByHand(p, m));
+            }
+        }
+        due.is("ways(1, 3)", x.ways(1, 3), 2);
+        due.is("ways(7, 3)", x.ways(7, 3), 6);
+        x.bar(1);
+        due.is("ways(3, 2) with 1 barred", x.ways(3, 2), 1);
+        due.is("ways(1, 1) with 1 barred", x.ways(1, 1), 0);
+        x.begin(1);
+        due.is("ways(1, 0) at a barred one", x.ways(1, 0), 1);
+        x = of(3, "0");
+        due.is("ways(0, 1), had", x.ways(0, 1), 0);
+        due.is("ways(2, 2)", x.ways(2, 2), 1);
+        due.is("ways(1, 0)", x.ways(1, 0), 1);
+        due.is("ways(1, 2)", x.ways(1, 2), 0);
+        x.set(0, 2);
+        due.is("ways(2, 2), lamp 0 rests", x.ways(2, 2), 0);
+        x.set(0, 0);
+        x.set(1, 1);
+        due.is("ways(2, 2), shy", x.ways(2, 2), 0);
+        due.is("ways(7, 2), shy", x.ways(7, 2), 2);
+        due.is("ways(6, 3), shy", x.ways(6, 3), 2);
+    }
+
+    /** Ways among three lamps from 0: all rows of lamps are tried. */
+    private static int waysByHand(int goal, int nights) {
+        int ways = 0;
+        for (int row = 0; row < Math.pow(3, nights); row++) {
+            int at = 0;
+            int had = 1;
+            boolean good = true;
+            for (int k = 0, rest = row; k < nights; k++, rest /= 3) {
+                at ^= 1 << rest % 3;
+                good &= (had >> at & 1) == 0;
+                had |= 1 << at;
+            }
+            ways += good && at == goal ? 1 : 0;
+        }
+        return ways;
+    }
+
+    private static void waysOfManyLamps() {
+        due.of("promise 18, many lamps");
+        OneLamp x = of(10, "");
+        due.is("ways(0, 0)", x.ways(0, 0), 1);
+        due.is("ways(512, 0)", x.ways(512, 0), 0);
+        due.is("ways(512, 1)", x.ways(512, 1), 1);
+        due.is("ways(768, 2)", x.ways(768, 2), 2);
+        due.is("ways(896, 3)", x.ways(896, 3), 6);
+        due.is("ways(960, 4)", x.ways(960, 4), 24);
+        due.is("ways(992, 5)", x.ways(992, 5), 120);
+        due.is("ways(1008, 5)", x.ways(1008, 5), 0);
+        due.is("ways(512, 3)", x.ways(512, 3), 9);
+        due.is("ways(0, 2)", x.ways(0, 2), 0);
+        due.is("ways(0, 4)", x.ways(0, 4), 0);
+        due.is("ways(512, 2)", x.ways(512, 2), 0);
+        due.is("ways(1024, 1)", x.ways(1024, 1), BAD);
+        x.begin(1023);
+        due.is("ways(1023 - 31, 5)", x.ways(1023 - 31, 5), 120);
+        Due.law(x, "h<10");
+        due.is("ways(511, 1)", x.ways(511, 1), 0);
+        due.is("ways(1022, 3)", x.ways(1022, 3), 8);
+    }
+
+    private static void judgeRefuses() {
+        due.of("promise 19, refused");
+        OneLamp x = new OneLamp();
+        for (int shelf : new int[] {-1, 6, Due.LOW, Due.HIGH}) {
+            due.is("judge(" + shelf + ")", x.judge(shelf), BAD);
+        }
+        for (int shelf = 0; shelf < 6; shelf++) {
+            due.is("judge(" + shelf + ")", x.judge(shelf), -11);
+        }
+        for (int sort = 0; sort < 5; sort++) {
+            x.row(0, sort, 0);
+            due.is("sort " + sort, x.judge(0), sort == 1 ? NOT : -12);
+            x.row(0, sort, 1);
+            due.is("sort " + sort, x.judge(0), sort == 1 ? NOT : -12);
+        }
+        x.body(0);
+        x.keep(0, 0);
+        due.is("a body", x.judge(0), -12);
+        x.keep(0, -1);
+        due.is("nothing", x.judge(0), -11);
+    }
+
+    private static void judged(OneLamp x, int want, long... row) {
+        Due.row(x, 4, 1, row);
+        StringBuilder text = new StringBuilder("judge by");
+        for (long picture : row) {
+            text.append(' ').append(picture);
+        }
+        due.is(text.toString(), x.judge(4), want);
+    }
+
+    private static void judgeFinds() {
+        due.of("promise 19");
+        OneLamp x = new OneLamp();
+        judged(x, NOT, 0, 1, 3, 2, 6, 7, 5, 4);
+        judged(x, 8, 0, 1, 3, 2, 6, 7, 5, 4, 0);
+        judged(x, NOT, 5);
+        judged(x, NOT, 7, 6);
+        judged(x, 0, 8);
+        judged(x, 0, -1, 0);
+        judged(x, 0, -32768);
+        judged(x, 1, 0, 8);
+        judged(x, 1, 0, -1);
+        judged(x, 1, 0, 0);
+        judged(x, 1, 0, 3);
+        judged(x, 1, 0, 7, 1);
+        judged(x, 2, 0, 1, 0);
+        judged(x, 2, 0, 1, 2);
+        judged(x, 4, 0, 1, 3, 2, 0);
+        judged(x, 3, 0, 1, 3, 32767);
+        x.bar(3);
+        judged(x, 2, 0, 1, 3, 2);
+        judged(x, 0, 3, 2);
+        judged(x, NOT, 2, 0, 1);
+        Due.law(x, "p=2");
+        judged(x, 0, 2, 0, 1);
+        judged(x, 1, 0, 2);
+        x.lamps(10);
+        judged(x, NOT, 0, 512, 513, 1);
+        judged(x, 3, 0, 512, 513, 1024);
+        x.row(4, 1, 60);
+        for (int k = 0; k < 60; k++) {
+            x.put(4, k, 64 + (k ^ k >> 1));
+        }
+        due.is("sixty", x.judge(4), NOT);
+        x.put(4, 59, 64 + 15);
+        due.is("the last is wrong", x.judge(4), 59);
+    }
+
+    private static void judgeUnderRules() {
+        due.of("promise 19, under rules");
+        OneLamp x = new OneLamp();
+        Due.change(x, "01");
+        judged(x, NOT, 0, 1, 3, 2);
+        judged(x, NOT, 3, 1, 0);
+        x.set(0, 1);
+        judged(x, NOT, 0, 1, 3, 2);
+        judged(x, NOT, 1, 0, 2);
+        x.set(0, 2);
+        judged(x, 3, 0, 1, 3, 2);
+        judged(x, NOT, 0, 1, 3, 7, 6, 4);
+        judged(x, NOT, 2, 3, 1, 5, 4, 6);
+        x.set(0, 3);
+        judged(x, 4, 0, 1, 3, 7, 6, 4);
+        x.set(0, 0);
+        x.set(1, 1);
+        judged(x, 3, 0, 1, 3, 2);
+        judged(x, NOT, 0, 1, 3, 7, 6);
+        judged(x, 5, 0, 1, 3, 7, 6, 4);
+        due.is("the wall is as it was", x.now(1), 3);
+        due.is("its nights, too", x.now(2), 2);
+        due.is("lamp(1, 2)", x.lamp(1, 2), 2);
+    }
+
+    private static void thoughtChangesNothing() {
+        due.of("thought");
+        OneLamp x = of(4, "01");
+        x.bar(2);
+        x.cost(1, 3);
+        Due.row(x, 0, 1, 0, 4, 5);
+        x.longest(-1);
+        x.wished(7);
+        x.game(1);
+        x.ways(15, 4);
+        x.judge(0);
+        x.through(0, 7, 3);
+        int[] want = {4, 3, 2, 3, 2, 15 - 1 + 3, 0, 0};
+        for (int what = 0; what < 8; what++) {
+            due.is("now(" + what + ")", x.now(what), want[what]);
+        }
+        due.is("may()", x.may(), 12);
+        due.is("count(0)", x.count(0), 1);
+        due.is("picture(4, 0)", x.picture(4, 0), 0);
+        due.is("lamp(2, 2)", x.lamp(2, 2), NOT);
+        due.is("lamp(2, 1)", x.lamp(2, 1), 0);
+    }
+}
