@@ -10,7 +10,7 @@ public final class OneLamp {
     private static final long NIGHTS_IN_ALL = 1L << 62;
 
     private final Wall wall;
-    private final Wall kept;
+    private final Wall imageOfWall;
     private boolean imageIsKept;
     private final Rules rules;
     private final Tape tape;
@@ -21,7 +21,7 @@ public final class OneLamp {
 
     public OneLamp() {
         wall = new Wall();
-        kept = new Wall();
+        imageOfWall = new Wall();
         rules = new Rules();
         tape = new Tape();
         costs = new Costs();
@@ -189,7 +189,7 @@ public final class OneLamp {
         if (i < -1) {
             return BAD;
         }
-        if (wall.lamps > Thought.MOST_LAMPS) {
+        if (wall.lamps > Thought.THINKABLE_LAMPS) {
             return STATE;
         }
         int nights = thought.longestFrom(wall, rules);
@@ -203,7 +203,7 @@ public final class OneLamp {
         if (t < 0 || t > 15) {
             return BAD;
         }
-        if (wall.lamps > Thought.MOST_LAMPS) {
+        if (wall.lamps > Thought.THINKABLE_LAMPS) {
             return STATE;
         }
         return thought.wishedFrom(wall, rules, t);
@@ -213,7 +213,7 @@ public final class OneLamp {
         if (what < 0 || what > 1) {
             return BAD;
         }
-        if (wall.lamps > Thought.MOST_LAMPS) {
+        if (wall.lamps > Thought.THINKABLE_LAMPS) {
             return STATE;
         }
         int lamp = thought.gameFrom(wall, rules);
@@ -280,7 +280,7 @@ public final class OneLamp {
         if (i == -1) {
             return isWay ? 1 : 0;
         }
-        if (wall.lamps > Thought.MOST_LAMPS) {
+        if (wall.lamps > Thought.THINKABLE_LAMPS) {
             return STATE;
         }
         if (!isWay) {
@@ -290,7 +290,7 @@ public final class OneLamp {
     }
 
     public int image() {
-        kept.become(wall);
+        imageOfWall.become(wall);
         imageIsKept = true;
         return wall.night;
     }
@@ -299,7 +299,7 @@ public final class OneLamp {
         if (!imageIsKept) {
             return STATE;
         }
-        wall.become(kept);
+        wall.become(imageOfWall);
         return wall.night;
     }
 
@@ -445,7 +445,7 @@ public final class OneLamp {
         return NOT;
     }
 
-    /** A set of pictures, one bit for each. */
+    /** Bits and not a row of booleans: an image and every thought copy such a set. */
     private static final class Pictures {
         private static final int MOST = 1 << MOST_LAMPS;
 
@@ -491,13 +491,13 @@ public final class OneLamp {
             return size;
         }
 
-        /** Those of four lamps, as bits of one number. */
+        /** As many as four lamps have: thought works on them as bits of one number. */
         int firstSixteen() {
             return (int) (words[0] & 0xFFFF);
         }
     }
 
-    /** All that an image keeps. */
+    /** All that an image keeps and nothing else, so that keeping one and going back is one copy. */
     private static final class Wall {
         int lamps;
         int picture;
@@ -580,7 +580,7 @@ public final class OneLamp {
         }
     }
 
-    /** What holds for every wall: the law, how long lamps rest, whether pictures are shy. */
+    /** What stays when a wall begins anew; deeds, thoughts and judgements all ask here whether a lamp may be changed. */
     private static final class Rules {
         int rest;
         int shy;
@@ -616,7 +616,6 @@ public final class OneLamp {
             return wall.told.holds(picture) || forbidden.holds(picture);
         }
 
-        /** Whether a lamp may be changed tonight. */
         boolean allow(Wall wall, int lamp) {
             if (!wall.hasLamp(lamp) || isResting(wall, lamp)) {
                 return false;
@@ -906,7 +905,7 @@ public final class OneLamp {
         }
     }
 
-    /** What each lamp costs, and the changes of it that can be undone and done again. */
+    /** Costs, and their changes: what is undone stays behind the done ones until another change comes. */
     private static final class Costs {
         private static final int MOST_CHANGES = 40;
 
@@ -1002,9 +1001,9 @@ public final class OneLamp {
         }
     }
 
-    /** Searches and judgements, on a wall of their own. */
+    /** Searches and judgements: they go their nights on a wall of their own, so that the true one stays as it is. */
     private static final class Thought {
-        static final int MOST_LAMPS = 4;
+        static final int THINKABLE_LAMPS = 4;
         private static final int MOST_NIGHTS = 15;
         /** The pictures of four lamps of which an even number is lit. */
         private static final int EVENLY_LIT = 0x9669;
@@ -1225,12 +1224,11 @@ public final class OneLamp {
         }
     }
 
-    /** Bodies, what their kinds take from above, and the trace of the latest act. */
+    /** Bodies as numbers of their kinds: tables say what a kind has of its own and what is above it. */
     private static final class Acts {
         private static final int KINDS = 8, MOST_TRACED = 24, MOST_DEEP = 40;
         private static final int LIGHTS = 0, SHOWS = 1, RESTS = 2, TELLS = 3;
         private static final int NONE = 0, NO_KIND = -1;
-        /** The kind above each kind. */
         private static final int[] ABOVE = {-1, 0, 0, 2, 1, 4, 0, 6};
         /** For each act a row: the body that each kind has of its own. What interfaces give stands at kind 0. */
         private static final int[] BODY_OF = {
@@ -1312,7 +1310,6 @@ public final class OneLamp {
             return isKind(kind) && at >= 0 && at < BODY_OF.length ? BODY_OF[at] : NONE;
         }
 
-        /** The kind from this one upward that has a body for an act. */
         private static int holderOf(int act, int kind) {
             int at = kind;
             for (int k = 0; k < KINDS && isKind(at) && bodyOf(act, at) == NONE; k++) {
