@@ -132,7 +132,8 @@ public final class ByLawTest {
         due.of("promise 22, refused");
         OneLamp x = new OneLamp();
         int[][] refused = {{-1, 0, -1}, {0, -1, -1}, {8, 1, -1}, {0, 8, -1}, {0, 1, -2}, {0, 1, 7}, {0, 3, 7}, {1, 1, 7},
-            {0, 8, 0}, {Due.LOW, 0, 0}, {0, Due.HIGH, 0}, {0, 1, Due.LOW}, {0, 1, Due.HIGH}};
+            {0, 8, 0}, {Due.LOW, 0, 0}, {0, Due.HIGH, 0}, {0, 1, Due.LOW}, {0, 1, Due.HIGH},
+            {0, 3, -2}, {0, 0, -2}};
         for (int[] call : refused) {
             due.is("through(" + call[0] + ", " + call[1] + ", " + call[2] + ")", x.through(call[0], call[1], call[2]), BAD);
         }
@@ -146,6 +147,7 @@ public final class ByLawTest {
         due.is("5 lamps: the last", x.through(0, 31, 30), STATE);
         due.is("5 lamps: none such", x.through(0, 31, 31), BAD);
         due.is("5 lamps: STATE comes ahead of NOT", x.through(0, 3, 0), STATE);
+        due.is("5 lamps: i -2", x.through(0, 31, -2), BAD);
         due.is("5 lamps: no picture", x.through(0, 32, 0), BAD);
         x.lamps(10);
         due.is("10 lamps: the last", x.through(0, 1, 1022), STATE);

@@ -4,7 +4,9 @@ import java.util.ArrayList;
 import java.util.Arrays;
 import java.util.Collections;
 import java.util.Deque;
+import java.util.HashMap;
 import java.util.List;
+import java.util.Map;
 import java.util.Set;
 import java.util.TreeSet;
 
@@ -14,6 +16,7 @@ import java.util.TreeSet;
  */
 final class Model {
     private static final int BAD = -1, NOT = -2, FULL = -3, STATE = -5;
+    private static final Map<List<Integer>, List<Integer>> WAYS_THROUGH = new HashMap<>();
     private static final BigInteger NIGHTS = BigInteger.ONE.shiftLeft(62);
 
     /** Nights since it was begun: all pictures it was at, and the lamp changed in each night. */
@@ -436,9 +439,18 @@ final class Model {
         if (log.n > 4) {
             return STATE;
         }
-        List<Integer> seen = new ArrayList<>(List.of(a));
+        if (log.n == 4 && !is) {
+            // Trying all ways of four lamps in vain takes long; with fewer lamps it is tried.
+            return NOT;
+        }
+        List<Integer> way = WAYS_THROUGH.computeIfAbsent(List.of(log.n, a, b), pair -> wayThrough(a, b));
+        return way.isEmpty() ? NOT : way.get(i);
+    }
+
+    private List<Integer> wayThrough(int a, int b) {
         List<Integer> way = new ArrayList<>();
-        return through(seen, way, b) ? way.get(i) : NOT;
+        through(new ArrayList<>(List.of(a)), way, b);
+        return way;
     }
 
     private boolean through(List<Integer> seen, List<Integer> way, int b) {

@@ -219,6 +219,10 @@ public final class NightsTest {
         int odd = 1 << 1 | 1 << 2 | 1 << 4 | 1 << 7;
         int even = 1 << 3 | 1 << 5 | 1 << 6;
         areWished(of(3, ""), 1, 22, even, odd, even, odd, even, odd);
+        int odd4 = ~0x9669 & 0xFFFF;
+        int even4 = 0x9669 & ~1;
+        int two = 1 << 3 | 1 << 5 | 1 << 6 | 1 << 9 | 1 << 10 | 1 << 12;
+        areWished(of(4, ""), 1, 278, two, odd4, even4, odd4, even4, odd4, even4, odd4, even4, odd4, even4, odd4, even4, odd4);
         OneLamp x = of(3, "");
         x.set(1, 1);
         areWished(x, 1, 22, even, 128, even);
