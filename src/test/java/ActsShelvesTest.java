@@ -109,11 +109,11 @@ public final class ActsShelvesTest {
 
     private static void actOfEveryKind() {
         due.of("promise 28, numbers and real classes");
-        OneLamp x = new OneLamp();
         for (int k = 0; k < 50; k++) {
-            x.body(k * 3 % 8);
-        }
-        for (int k = 0; k < 50; k++) {
+            OneLamp x = new OneLamp();
+            for (int body = 0; body < 50; body++) {
+                x.body(body * 3 % 8);
+            }
             ModelBodies.Way way = ModelBodies.made(k * 3 % 8, k);
             for (int v : new int[] {0, 1, -1, 6, 1000, Due.LOW, Due.HIGH}) {
                 way.ran = new ArrayList<>();
@@ -214,6 +214,7 @@ public final class ActsShelvesTest {
         due.is("row(0, 4, LOW)", x.row(0, 4, Due.LOW), -14);
         due.is("still nothing", x.put(0, 0, 0), -11);
         for (int sort = 0; sort < 5; sort++) {
+            x = new OneLamp();
             for (int n : new int[] {60, 0, 1, 7}) {
                 int shelf = (sort + n) % 6;
                 due.is("row(" + shelf + ", " + sort + ", " + n + ")", x.row(shelf, sort, n), 1);

@@ -1,10 +1,16 @@
+import java.io.IOException;
+import java.nio.file.Files;
+import java.nio.file.Path;
+
 /** Counts the calls whose answer is not the one that is due. */
 final class Due {
+    private static final Path DOCUMENT = Path.of("../shared/DOC.md");
     static final int BAD = -1, NOT = -2, FULL = -3, STATE = -5;
     static final int LOW = Integer.MIN_VALUE, HIGH = Integer.MAX_VALUE;
 
     private final String title;
     private String part = "";
+    private String document;
     private int asked;
     private int wrong;
 
@@ -15,6 +21,23 @@ final class Due {
     /** What is asked from here on: a promise, or a part of it. */
     void of(String newPart) {
         part = newPart + ": ";
+    }
+
+    /** What is asked from here on: a sentence of the document. It must stand there, so that a changed document is noticed. */
+    void sentence(String words) {
+        of("\"" + words + "\"");
+        if (document == null) {
+            document = read();
+        }
+        is("the document's words", document.isEmpty() || document.contains(words) ? 1 : 0, 1);
+    }
+
+    private static String read() {
+        try {
+            return Files.exists(DOCUMENT) ? Files.readString(DOCUMENT).replaceAll("\\s+", " ") : "";
+        } catch (IOException unread) {
+            return "";
+        }
     }
 
     void is(String call, long got, long want) {

@@ -10,6 +10,8 @@ import java.util.Arrays;
 import java.util.List;
 import java.util.Set;
 import java.util.TreeSet;
+import java.util.regex.Matcher;
+import java.util.regex.Pattern;
 
 /** The rules of LANGUAGE.md that can be read from the class and its text. Run it from the project's folder. */
 public final class LanguageTest {
@@ -32,7 +34,7 @@ public final class LanguageTest {
         due.is("at most twelve classes", 1 + OneLamp.class.getDeclaredClasses().length <= 12 ? 1 : 0, 1);
         String text = withoutCommentsAndTexts(Files.readString(SOURCE));
         words(text);
-        imports(text);
+        library(text);
         lengths(text);
         due.end();
     }
@@ -96,28 +98,34 @@ public final class LanguageTest {
 
     private static void words(String text) {
         due.of("rules 2, 4, 6");
-        for (String word : new String[] {"throw", "throws", "try", "catch", "finally", "synchronized", "assert", "System.out",
-            "->", "::", "null", "Object", "equals", "hashCode", "toString", "String", "@", "Exact", "package", "protected",
-            "volatile", "transient", "native", "goto", "while (true", "for (;;", "Integer.valueOf", "new Object", "random",
-            "nanoTime", "currentTime", "Thread", "getClass", "double", "float", "List", "interface"}) {
+        for (String word : new String[] {"throw", "throws", "try", "catch", "finally", "synchronized", "assert", "->", "::",
+            "Object", "hashCode", "Exact", "package", "protected", "volatile", "transient", "native", "while (true", "for (;;",
+            "sqrt", "random", "Random", "Thread", "Runtime", "getClass", "java.io", "java.time", "HashMap",
+            "HashSet", "Scanner", "static {"}) {
             boolean isWord = Character.isLetter(word.charAt(0)) && Character.isLetter(word.charAt(word.length() - 1));
-            String pattern = isWord ? "(?s).*\\b" + java.util.regex.Pattern.quote(word) + "\\b.*" : "(?s).*" + java.util.regex.Pattern.quote(word) + ".*";
+            String pattern = isWord ? "(?s).*\\b" + Pattern.quote(word) + "\\b.*" : "(?s).*" + Pattern.quote(word) + ".*";
             due.is("no " + word, text.matches(pattern) ? 1 : 0, 0);
         }
         due.is("signs 1 to 127", text.chars().allMatch(c -> c > 0 && c < 128) ? 1 : 0, 1);
     }
 
-    private static void imports(String text) {
+    private static void library(String text) {
         due.of("rule 4");
+        Set<String> imported = Set.of("java.util.Arrays", "java.util.ArrayList", "java.util.List", "java.util.Iterator");
         for (String line : text.split("\n")) {
             if (line.startsWith("import ")) {
-                due.is(line, line.equals("import java.util.Arrays;") ? 1 : 0, 1);
+                due.is(line, imported.contains(line.substring(7, line.length() - 1)) ? 1 : 0, 1);
             }
         }
-        java.util.regex.Matcher calls = java.util.regex.Pattern.compile("\\b(Arrays|System|Integer|Long|Math)\\.(\\w+)").matcher(text);
-        Set<String> allowed = Set.of("Arrays.fill", "System.arraycopy", "Integer.bitCount", "Long.bitCount", "Long.MIN_VALUE");
+        Set<String> ofArrays = Set.of("copyOf", "copyOfRange", "fill");
+        Set<String> ofNumbers = Set.of("compare", "max", "min", "abs", "bitCount", "floorDiv", "floorMod", "signum",
+            "numberOfLeadingZeros", "numberOfTrailingZeros", "highestOneBit", "lowestOneBit", "MIN_VALUE", "MAX_VALUE");
+        Matcher calls = Pattern.compile("\\b(Arrays|System|Integer|Long|Math)\\.(\\w+)").matcher(text);
         while (calls.find()) {
-            due.is(calls.group(), allowed.contains(calls.group()) ? 1 : 0, 1);
+            String name = calls.group(2);
+            Set<String> allowed = calls.group(1).equals("System") ? Set.of("arraycopy")
+                : calls.group(1).equals("Arrays") ? ofArrays : ofNumbers;
+            due.is(calls.group(), allowed.contains(name) ? 1 : 0, 1);
         }
     }
 

@@ -13,6 +13,9 @@ public final class ModelTest {
         "p*(l-(h+(n%(2+(1*((3)))))))", "-(-(-(p-1)))-1", "0000|p=0007",
     };
 
+    /** What an object answers behind its 512th call is free. */
+    private static final int MOST_CALLS = 512, MOST_AT_ONCE = 145;
+
     private final Random random;
     private final OneLamp lamp = new OneLamp();
     private final Model model = new Model();
@@ -29,7 +32,7 @@ public final class ModelTest {
     }
 
     public static void main(String[] args) {
-        int runs = args.length > 0 ? Integer.parseInt(args[0]) : 2000;
+        int runs = args.length > 0 ? Integer.parseInt(args[0]) : 3000;
         Due due = new Due("ModelTest");
         for (int seed = 0; seed < runs; seed++) {
             new ModelTest(seed, due).run();
@@ -41,7 +44,7 @@ public final class ModelTest {
         if (random.nextInt(5) > 0) {
             lamps(wallSize);
         }
-        for (int k = 0; k < 300; k++) {
+        while (calls.size() < MOST_CALLS - MOST_AT_ONCE) {
             int theme = seed / 10 % 5;
             int chosen = random.nextInt(10) < 7 ? theme : random.nextInt(5);
             switch (chosen) {

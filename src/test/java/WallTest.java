@@ -29,10 +29,12 @@ public final class WallTest {
         due.is("now(2)", x.now(2), 0);
         due.is("now(3)", x.now(3), 1);
         due.is("now(4)", x.now(4), 0);
-        for (int p = 0; p < 1 << x.now(0); p++) {
+        int n = x.now(0);
+        for (int p = 0; p < 1 << n; p += n > 6 ? 31 : 1) {
             due.is("picture(" + p + ", 0)", x.picture(p, 0), p == picture ? 1 : 0);
         }
-        for (int l = 0; l < x.now(0); l++) {
+        due.is("picture(" + picture + ", 0)", x.picture(picture, 0), 1);
+        for (int l = 0; l < n; l++) {
             due.is("lamp(" + l + ", 1)", x.lamp(l, 1), 0);
             due.is("lamp(" + l + ", 2)", x.lamp(l, 2), NOT);
         }
