@@ -67,6 +67,14 @@ final class Due {
         return lamp.law();
     }
 
+    /** A new wall of so many lamps on which these were changed, a digit each. */
+    static OneLamp wall(int lamps, String changed) {
+        OneLamp x = new OneLamp();
+        x.lamps(lamps);
+        change(x, changed);
+        return x;
+    }
+
     /** Changes lamps, a digit each; the answer to the last. */
     static int change(OneLamp lamp, String lamps) {
         int answer = 0;

@@ -13,6 +13,7 @@ public final class EdgesOfTheLawTest {
         levels();
         oneRelation();
         numbers();
+        everyNumberOfAPicture();
         oneOperand();
         noBlanks();
         names();
@@ -25,18 +26,13 @@ public final class EdgesOfTheLawTest {
         oneOr0();
         allIsWorkedOut();
         firstLineThatCounts();
+        nothingOfTheLawAhead();
         faultIsAPlace();
         faultOfEveryByte();
         endsTooEarly();
         withoutAText();
         aFaultLeavesTheLaw();
         due.end();
-    }
-
-    private static OneLamp of(int lamps) {
-        OneLamp x = new OneLamp();
-        x.lamps(lamps);
-        return x;
     }
 
     /** Where a text has its fault, or GOOD. */
@@ -46,7 +42,7 @@ public final class EdgesOfTheLawTest {
 
     /** Whether a text bars picture 13 of four lamps. */
     private static void bars(String text, int want) {
-        OneLamp x = of(4);
+        OneLamp x = Due.wall(4, "");
         due.is("law " + text, Due.law(x, text), 1);
         due.is(text, x.picture(13, 1), want);
     }
@@ -58,7 +54,7 @@ public final class EdgesOfTheLawTest {
 
     private static void tapeOf120Bytes() {
         due.sentence("THE TAPE (at most 120 bytes)");
-        OneLamp x = of(4);
+        OneLamp x = Due.wall(4, "");
         for (int k = 1; k <= 119; k++) {
             due.is("feed, the " + k + "th", x.feed(k % 2 == 0 ? '+' : '0'), k);
         }
@@ -191,6 +187,21 @@ public final class EdgesOfTheLawTest {
         fault("1p", 1);
     }
 
+    private static void everyNumberOfAPicture() {
+        due.sentence("O = a number (1 to 4 digits)");
+        OneLamp x = Due.wall(10, "");
+        for (int number = 0; number < 1024; number++) {
+            if (number % 40 == 0) {
+                x = Due.wall(10, "");
+            }
+            due.is("law", Due.law(x, "p=" + number), 1);
+            due.is("p=" + number + " of itself", x.picture(number, 1), 1);
+            due.is("p=" + number + " of the next", x.picture((number + 1) % 1024, 1), 0);
+            due.is("law", Due.law(x, "" + number), 1);
+            due.is(number + " of 0", x.picture(0, 1), number == 0 ? 0 : 1);
+        }
+    }
+
     private static void oneOperand() {
         due.sentence("O = a number (1 to 4 digits), a NAME, ! O, - O, ( E ).");
         fault("!p", GOOD);
@@ -240,7 +251,7 @@ public final class EdgesOfTheLawTest {
     }
 
     private static void isOf(int n, int p, int l, int h) {
-        OneLamp x = of(n);
+        OneLamp x = Due.wall(n, "");
         due.is("law", Due.law(x, "p=" + p + "&l=" + l + "&n=" + n + "&h=" + h), 1);
         due.is(p + " of " + n + " has " + l + " lit, up to " + h, x.picture(p, 1), 1);
     }
@@ -383,6 +394,19 @@ public final class EdgesOfTheLawTest {
         bars("0?1;0?1;0?1", 0);
         bars("1?0;1?1", 0);
         bars("p=12?0;p=13?1;p=13?0", 1);
+    }
+
+    private static void nothingOfTheLawAhead() {
+        due.sentence("THE TAPE becomes THE LAW");
+        OneLamp x = new OneLamp();
+        Due.law(x, "0?0;0?0;0?0;0?0;1");
+        due.is("a long one: may()", x.may(), 0);
+        Due.law(x, "0?1");
+        due.is("a short one: may()", x.may(), 7);
+        Due.law(x, "0?0;1-2?p=1;1");
+        due.is("a long one: may()", x.may(), 6);
+        Due.law(x, "p=2");
+        due.is("a short one: may()", x.may(), 5);
     }
 
     private static void faultIsAPlace() {

@@ -26,13 +26,6 @@ public final class EdgesOfTheWallTest {
         due.end();
     }
 
-    private static OneLamp of(int lamps, String changed) {
-        OneLamp x = new OneLamp();
-        x.lamps(lamps);
-        Due.change(x, changed);
-        return x;
-    }
-
     private static void oneToTenLamps() {
         due.sentence("THE WALL has n LAMPS (1 .. 10; 3 at first)");
         OneLamp x = new OneLamp();
@@ -50,7 +43,7 @@ public final class EdgesOfTheWallTest {
     private static void lampsFrom0() {
         due.sentence("0 .. n less 1;");
         for (int n = 1; n <= 10; n++) {
-            OneLamp x = of(n, "");
+            OneLamp x = Due.wall(n, "");
             due.is("change(-1) of " + n, x.change(-1), BAD);
             due.is("change(" + n + ") of " + n, x.change(n), BAD);
             for (int what = 0; what < 3; what++) {
@@ -68,7 +61,7 @@ public final class EdgesOfTheWallTest {
         for (int n = 1; n <= 10; n++) {
             int last = (1 << n) - 1;
             for (int p : new int[] {-1, last + 1, last + 2, Due.LOW, Due.HIGH}) {
-                OneLamp x = of(n, "");
+                OneLamp x = Due.wall(n, "");
                 due.is("begin(" + p + ") of " + n, x.begin(p), BAD);
                 due.is("bar(" + p + ") of " + n, x.bar(p), BAD);
                 due.is("picture(" + p + ", 0) of " + n, x.picture(p, 0), BAD);
@@ -77,7 +70,7 @@ public final class EdgesOfTheWallTest {
                 due.is("through(" + p + ", 0, -1) of " + n, x.through(p, 0, -1), BAD);
                 due.is("through(0, " + p + ", -1) of " + n, x.through(0, p, -1), BAD);
             }
-            OneLamp x = of(n, "");
+            OneLamp x = Due.wall(n, "");
             due.is("bar(" + last + ") of " + n, x.bar(last), 1);
             due.is("picture(" + last + ", 1) of " + n, x.picture(last, 1), 1);
             due.is("ways(" + last + ", 0) of " + n, x.ways(last, 0), 0);
@@ -119,7 +112,7 @@ public final class EdgesOfTheWallTest {
 
     private static void costOfTenLamps() {
         due.sentence("COST of each of ten LAMPS (0 .. 9; 1 at first)");
-        OneLamp x = of(1, "");
+        OneLamp x = Due.wall(1, "");
         for (int l = 0; l < 10; l++) {
             due.is("cost(" + l + ", -1)", x.cost(l, -1), BAD);
             due.is("cost(" + l + ", 10)", x.cost(l, 10), BAD);
@@ -198,7 +191,7 @@ public final class EdgesOfTheWallTest {
 
     private static void mayNotWhatWasHad() {
         due.sentence("if the PICTURE then was not HAD");
-        OneLamp x = of(2, "01");
+        OneLamp x = Due.wall(2, "01");
         due.is("may()", x.may(), 1);
         due.is("change(1)", x.change(1), NOT);
         due.is("change(0)", x.change(0), 2);
@@ -222,7 +215,7 @@ public final class EdgesOfTheWallTest {
 
     private static void restFromNoneToNine() {
         due.sentence("if the LAMP was not changed in the last REST NIGHTS");
-        OneLamp x = of(10, "0123456789");
+        OneLamp x = Due.wall(10, "0123456789");
         int[] want = {511, 511, 255, 127, 63, 31, 15, 7, 3, 1};
         for (int rest = 0; rest <= 9; rest++) {
             x.set(0, rest);
@@ -236,7 +229,7 @@ public final class EdgesOfTheWallTest {
 
     private static void restOfLampsNeverChanged() {
         due.sentence("if the LAMP was not changed in the last REST NIGHTS");
-        OneLamp x = of(10, "");
+        OneLamp x = Due.wall(10, "");
         x.set(0, 9);
         due.is("night 0: may()", x.may(), 1023);
         Due.change(x, "012");
@@ -250,7 +243,7 @@ public final class EdgesOfTheWallTest {
 
     private static void restOfOne() {
         due.sentence("REST 1: not in two NIGHTS one behind the other.");
-        OneLamp x = of(4, "0");
+        OneLamp x = Due.wall(4, "0");
         x.set(0, 1);
         due.is("may() behind it", x.may(), 14);
         due.is("change(0) behind it", x.change(0), NOT);
@@ -263,7 +256,7 @@ public final class EdgesOfTheWallTest {
 
     private static void shyOfOthersHad() {
         due.sentence("if SHY is 1, if no other PICTURE that was HAD");
-        OneLamp x = of(4, "01");
+        OneLamp x = Due.wall(4, "01");
         due.is("SHY 0: may()", x.may(), 13);
         x.set(1, 1);
         due.is("2 is beside 0, the first of all: may()", x.may(), 12);
@@ -277,7 +270,7 @@ public final class EdgesOfTheWallTest {
     private static void shyNotOfTheOneItIsAt() {
         due.sentence("but the one it is at");
         for (int n = 1; n <= 10; n++) {
-            OneLamp x = of(n, "");
+            OneLamp x = Due.wall(n, "");
             x.set(1, 1);
             due.is("of " + n + ": may()", x.may(), (1 << n) - 1);
             x.begin((1 << n) - 1);
@@ -287,7 +280,7 @@ public final class EdgesOfTheWallTest {
 
     private static void shyInJustOneLamp() {
         due.sentence("is unlike the new one in just one LAMP");
-        OneLamp x = of(10, "9");
+        OneLamp x = Due.wall(10, "9");
         x.set(1, 1);
         due.is("those are two lamps from 0: may()", x.may(), 511);
         x.change(0);
@@ -300,14 +293,14 @@ public final class EdgesOfTheWallTest {
 
     private static void shyOfWhatWasHadAlone() {
         due.sentence("no other PICTURE that was HAD");
-        OneLamp x = of(3, "0");
+        OneLamp x = Due.wall(3, "0");
         x.set(1, 1);
         x.bar(4);
         Due.law(x, "p=7");
         due.is("5 is beside barred 4 and 7: may()", x.may(), 6);
         x.begin(0);
         due.is("begun anew, 1 is not had: may()", x.may(), 3);
-        OneLamp y = of(3, "");
+        OneLamp y = Due.wall(3, "");
         y.set(1, 1);
         y.image();
         Due.change(y, "01");

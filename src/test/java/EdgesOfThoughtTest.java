@@ -47,15 +47,8 @@ public final class EdgesOfThoughtTest {
         due.end();
     }
 
-    private static OneLamp of(int lamps, String changed) {
-        OneLamp x = new OneLamp();
-        x.lamps(lamps);
-        Due.change(x, changed);
-        return x;
-    }
-
     private static OneLamp ruled(int lamps, int rest, int shy, String law) {
-        OneLamp x = of(lamps, "");
+        OneLamp x = Due.wall(lamps, "");
         x.set(0, rest);
         x.set(1, shy);
         Due.law(x, law);
@@ -83,7 +76,7 @@ public final class EdgesOfThoughtTest {
     private static void fourLampsInThought() {
         due.sentence("In thought from now (4 LAMPS at most: else STATE)");
         for (int n = 1; n <= 10; n++) {
-            OneLamp x = of(n, "");
+            OneLamp x = Due.wall(n, "");
             boolean few = n <= 4;
             due.is(n + " lamps: longest(-1)", x.longest(-1), few ? (1 << n) - 1 : STATE);
             due.is(n + " lamps: longest(0)", x.longest(0), few ? 0 : STATE);
@@ -103,27 +96,27 @@ public final class EdgesOfThoughtTest {
 
     private static void longestOfNone() {
         due.sentence("LONGEST of none: 0.");
-        isLongest(of(1, "0"), "");
-        isLongest(of(2, "010"), "");
+        isLongest(Due.wall(1, "0"), "");
+        isLongest(Due.wall(2, "010"), "");
         isLongest(ruled(4, 0, 0, "1"), "");
-        OneLamp x = of(1, "");
+        OneLamp x = Due.wall(1, "");
         x.bar(1);
         isLongest(x, "");
     }
 
     private static void longestIsTheFirst() {
         due.sentence("LONGEST: the most NIGHTS that can follow one another; the first such way by rows of LAMPS.");
-        isLongest(of(1, ""), "0");
-        isLongest(of(2, ""), "010");
-        isLongest(of(2, "0"), "10");
-        isLongest(of(3, ""), "0102010");
-        isLongest(of(4, ""), "010201030102010");
-        OneLamp x = of(2, "");
+        isLongest(Due.wall(1, ""), "0");
+        isLongest(Due.wall(2, ""), "010");
+        isLongest(Due.wall(2, "0"), "10");
+        isLongest(Due.wall(3, ""), "0102010");
+        isLongest(Due.wall(4, ""), "010201030102010");
+        OneLamp x = Due.wall(2, "");
         x.bar(3);
         isLongest(x, "0");
         x.bar(1);
         isLongest(x, "1");
-        x = of(3, "");
+        x = Due.wall(3, "");
         x.bar(3);
         x.bar(7);
         isLongest(x, "02012");
@@ -147,7 +140,7 @@ public final class EdgesOfThoughtTest {
 
     private static void wishedFromNow() {
         due.sentence("WISHED: PICTURES (bits) at which it can be in the t-th NIGHT from now (0: now).");
-        OneLamp x = of(2, "");
+        OneLamp x = Due.wall(2, "");
         int[] ofTwo = {1, 6, 8, 6};
         for (int t = 0; t <= 15; t++) {
             due.is("wished(" + t + ")", x.wished(t), t < ofTwo.length ? ofTwo[t] : 0);
@@ -159,7 +152,7 @@ public final class EdgesOfThoughtTest {
         for (int t = 0; t < fromThere.length; t++) {
             due.is("a night later, wished(" + t + ")", x.wished(t), fromThere[t]);
         }
-        x = of(4, "");
+        x = Due.wall(4, "");
         int oddlyLit = 2 + 4 + 16 + 128 + 256 + (1 << 11) + (1 << 13) + (1 << 14);
         due.is("4 lamps: wished(15)", x.wished(15), oddlyLit);
         due.is("4 lamps: wished(14)", x.wished(14), 0xFFFF - oddlyLit - 1);
@@ -180,12 +173,12 @@ public final class EdgesOfThoughtTest {
 
     private static void whoCanNotHasLost() {
         due.sentence("who can't has lost");
-        wins(of(1, "0"), NOT);
-        wins(of(1, ""), 0);
-        wins(of(2, "010"), NOT);
-        wins(of(2, "01"), 0);
-        wins(of(2, "0"), NOT);
-        wins(of(2, ""), 0);
+        wins(Due.wall(1, "0"), NOT);
+        wins(Due.wall(1, ""), 0);
+        wins(Due.wall(2, "010"), NOT);
+        wins(Due.wall(2, "01"), 0);
+        wins(Due.wall(2, "0"), NOT);
+        wins(Due.wall(2, ""), 0);
         wins(ruled(4, 0, 0, "1"), NOT);
     }
 
@@ -196,14 +189,14 @@ public final class EdgesOfThoughtTest {
         wins(ruled(3, 0, 0, "p>4|p=1|p=3"), 1);
         wins(ruled(3, 0, 0, "p=1|p=2|p=7"), NOT);
         wins(ruled(3, 0, 0, "p=1|p=2|p>4"), 2);
-        OneLamp x = of(2, "");
+        OneLamp x = Due.wall(2, "");
         due.is("game(-1)", x.game(-1), BAD);
         due.is("game(2)", x.game(2), BAD);
     }
 
     private static void rulesHoldInTheGame() {
         due.sentence("GAME: REST, SHY, HAD hold in it.");
-        wins(of(2, ""), 0);
+        wins(Due.wall(2, ""), 0);
         wins(ruled(2, 2, 0, "0"), NOT);
         wins(ruled(2, 0, 1, "0"), NOT);
         wins(ruled(3, 2, 0, "0"), 0);
@@ -213,7 +206,7 @@ public final class EdgesOfThoughtTest {
         OneLamp x = ruled(2, 2, 0, "0");
         x.change(1);
         wins(x, 0);
-        x = of(2, "0");
+        x = Due.wall(2, "0");
         wins(x, NOT);
         x.begin(1);
         wins(x, 0);
@@ -221,20 +214,20 @@ public final class EdgesOfThoughtTest {
 
     private static void waysOfNoNight() {
         due.sentence("WAYS with m 0: 1 for the PICTURE it is at.");
-        OneLamp x = of(3, "01");
+        OneLamp x = Due.wall(3, "01");
         for (int p = 0; p < 8; p++) {
             due.is("ways(" + p + ", 0)", x.ways(p, 0), p == 3 ? 1 : 0);
         }
         x.bar(3);
         due.is("barred: ways(3, 0)", x.ways(3, 0), 1);
-        x = of(10, "9");
+        x = Due.wall(10, "9");
         due.is("ways(512, 0)", x.ways(512, 0), 1);
         due.is("ways(0, 0)", x.ways(0, 0), 0);
     }
 
     private static void waysOfFiveNights() {
         due.sentence("WAYS: how many ways of m NIGHTS (0 .. 5) from now end at a PICTURE (any LAMPS).");
-        OneLamp x = of(10, "");
+        OneLamp x = Due.wall(10, "");
         due.is("ways(31, -1)", x.ways(31, -1), BAD);
         due.is("ways(31, 6)", x.ways(31, 6), BAD);
         due.is("ways(31, 5)", x.ways(31, 5), 120);
@@ -242,18 +235,18 @@ public final class EdgesOfThoughtTest {
         due.is("ways(63, 5)", x.ways(63, 5), 0);
         due.is("ways(992, 5)", x.ways(992, 5), 120);
         due.is("ways(0, 4), had", x.ways(0, 4), 0);
-        x = of(1, "");
+        x = Due.wall(1, "");
         due.is("1 lamp: ways(1, 1)", x.ways(1, 1), 1);
         due.is("1 lamp: ways(1, 3)", x.ways(1, 3), 0);
         due.is("1 lamp: ways(0, 2)", x.ways(0, 2), 0);
-        x = of(2, "");
+        x = Due.wall(2, "");
         due.is("2 lamps: ways(2, 3)", x.ways(2, 3), 1);
         due.is("2 lamps: ways(0, 4)", x.ways(0, 4), 0);
     }
 
     private static void rulesHoldInWays() {
         due.sentence("WAYS: how many ways of m NIGHTS (0 .. 5) from now");
-        OneLamp x = of(3, "");
+        OneLamp x = Due.wall(3, "");
         due.is("ways(1, 3)", x.ways(1, 3), 2);
         x.set(0, 2);
         due.is("rest 2: ways(1, 3)", x.ways(1, 3), 0);
@@ -272,7 +265,7 @@ public final class EdgesOfThoughtTest {
 
     private static void judgedFromItsBeginning() {
         due.sentence("JUDGED: nothing else is HAD and no LAMP was changed at its beginning.");
-        OneLamp x = of(3, "012");
+        OneLamp x = Due.wall(3, "012");
         x.set(0, 2);
         x.set(1, 1);
         judged(x, NOT, 7, 3, 1, 0);
@@ -284,7 +277,7 @@ public final class EdgesOfThoughtTest {
 
     private static void judgedNoneOfTheWalls() {
         due.sentence("the first place at which it is none of the WALL's");
-        OneLamp x = of(3, "");
+        OneLamp x = Due.wall(3, "");
         judged(x, 0, 8);
         judged(x, 0, -1);
         judged(x, 1, 0, 8);
@@ -303,7 +296,7 @@ public final class EdgesOfThoughtTest {
 
     private static void judgedBarred() {
         due.sentence("or BARRED (the first, too)");
-        OneLamp x = of(3, "");
+        OneLamp x = Due.wall(3, "");
         x.bar(1);
         Due.law(x, "p=2");
         judged(x, 0, 1);
@@ -315,7 +308,7 @@ public final class EdgesOfThoughtTest {
 
     private static void judgedMayNot() {
         due.sentence("or the LAMP that is unlike MAY not be changed");
-        OneLamp x = of(3, "");
+        OneLamp x = Due.wall(3, "");
         judged(x, 2, 0, 1, 0);
         judged(x, 4, 0, 1, 3, 2, 0);
         x.set(0, 2);
@@ -331,7 +324,7 @@ public final class EdgesOfThoughtTest {
 
     private static void judgedNotJustOne() {
         due.sentence("(also: not just one is)");
-        OneLamp x = of(4, "");
+        OneLamp x = Due.wall(4, "");
         judged(x, 1, 0, 0);
         judged(x, 1, 5, 5, 4);
         judged(x, 1, 0, 3);
@@ -342,7 +335,7 @@ public final class EdgesOfThoughtTest {
 
     private static void judgedByNoElements() {
         due.sentence("NOT (also by a ROW without elements).");
-        OneLamp x = of(3, "");
+        OneLamp x = Due.wall(3, "");
         judged(x, NOT);
         judged(x, NOT, 0);
         x.bar(0);
@@ -352,7 +345,7 @@ public final class EdgesOfThoughtTest {
 
     private static void darkInNight0() {
         due.sentence("in NIGHT 0 all are dark");
-        OneLamp x = of(1, "");
+        OneLamp x = Due.wall(1, "");
         due.is("mirror(0, 0)", x.mirror(0, 0), 0);
         due.is("mirror(0, 1)", x.mirror(0, 1), 0);
         for (int s = 2; s <= 9; s++) {
@@ -364,7 +357,7 @@ public final class EdgesOfThoughtTest {
 
     private static void nightsAndPicturesOfTheMirror() {
         due.sentence("NIGHTS and PICTURES 0 .. 2^62 less 1.");
-        OneLamp x = of(1, "");
+        OneLamp x = Due.wall(1, "");
         for (int what = 0; what <= 2; what++) {
             due.is("mirror(-1, " + what + ")", x.mirror(-1, what), BAD);
             due.is("mirror(2^62, " + what + ")", x.mirror(END, what), BAD);
@@ -381,7 +374,7 @@ public final class EdgesOfThoughtTest {
 
     private static void lampOfANight() {
         due.sentence("LAMP of NIGHT t (1 on): the one that is changed in it.");
-        OneLamp x = of(1, "");
+        OneLamp x = Due.wall(1, "");
         due.is("mirror(0, 2)", x.mirror(0, 2), NOT);
         due.is("mirror(1, 2)", x.mirror(1, 2), 0);
         due.is("mirror(2, 2)", x.mirror(2, 2), 1);
@@ -394,7 +387,7 @@ public final class EdgesOfThoughtTest {
 
     private static void lampsOfSeveralStates() {
         due.sentence("SEVERAL: LAMPS of s states (2 .. 9)");
-        OneLamp x = of(1, "");
+        OneLamp x = Due.wall(1, "");
         for (int si : new int[] {-200, -1, 0, 30, 100, 130, 199, 231, 299, 931, 999, 1000, 1030, Due.LOW, Due.HIGH}) {
             due.is("several(" + si + ", 1)", x.several(si, 1), BAD);
         }
@@ -409,7 +402,7 @@ public final class EdgesOfThoughtTest {
 
     private static void thereAndBack() {
         due.sentence("r = q % (2 s): r, if it is below s, else 2 s less 1 less r.");
-        OneLamp x = of(1, "");
+        OneLamp x = Due.wall(1, "");
         for (int s = 2; s <= 9; s++) {
             due.is(s + " states, night s less 1", x.several(100 * s, s - 1), s - 1);
             due.is(s + " states, night s", x.several(100 * s, s), s - 1);
@@ -427,7 +420,7 @@ public final class EdgesOfThoughtTest {
 
     private static void severalInFarNights() {
         due.sentence("with q = t by s to the i (cut)");
-        OneLamp x = of(1, "");
+        OneLamp x = Due.wall(1, "");
         long last = END - 1;
         int[][] far = {{200, 0}, {230, 0}, {300, 0}, {330, 0}, {900, 0}, {930, 0}};
         for (int[] call : far) {
@@ -449,7 +442,7 @@ public final class EdgesOfThoughtTest {
     private static void throughIfOdd() {
         due.sentence("whether there is a way: if an odd number of LAMPS is unlike.");
         for (int n = 1; n <= 10; n++) {
-            OneLamp x = of(n, "");
+            OneLamp x = Due.wall(n, "");
             int all = (1 << n) - 1;
             due.is(n + " lamps: to itself", x.through(0, 0, -1), 0);
             due.is(n + " lamps: all lit to itself", x.through(all, all, -1), 0);
@@ -463,7 +456,7 @@ public final class EdgesOfThoughtTest {
     private static void throughNights() {
         due.sentence("the LAMP of the i-th NIGHT (from 0). BAD (none such)");
         for (int n = 1; n <= 10; n++) {
-            OneLamp x = of(n, "");
+            OneLamp x = Due.wall(n, "");
             int nights = (1 << n) - 1;
             due.is(n + " lamps: i -2", x.through(0, 1, -2), BAD);
             due.is(n + " lamps: i LOW", x.through(0, 1, Due.LOW), BAD);
@@ -478,12 +471,12 @@ public final class EdgesOfThoughtTest {
     private static void throughFourLamps() {
         due.sentence("The first such way by rows of LAMPS (4 LAMPS at most).");
         for (int n = 1; n <= 10; n++) {
-            OneLamp x = of(n, "");
+            OneLamp x = Due.wall(n, "");
             int first = n == 1 ? 0 : 1;
             due.is(n + " lamps: the first", x.through(0, 1, 0), n <= 4 ? first : STATE);
             due.is(n + " lamps: none", x.through(0, 0, 0), n <= 4 ? NOT : STATE);
         }
-        OneLamp x = of(3, "");
+        OneLamp x = Due.wall(3, "");
         int[] way = {1, 0, 2, 0, 1, 0, 2};
         for (int i = 0; i < way.length; i++) {
             due.is("through(0, 1, " + i + ")", x.through(0, 1, i), way[i]);
@@ -492,7 +485,7 @@ public final class EdgesOfThoughtTest {
 
     private static void throughAndBarred() {
         due.sentence("THROUGH: what is BARRED doesn't count.");
-        OneLamp x = of(2, "");
+        OneLamp x = Due.wall(2, "");
         x.change(0);
         x.bar(3);
         x.bar(0);
@@ -509,7 +502,7 @@ public final class EdgesOfThoughtTest {
 
     private static void oftenInDeed() {
         due.sentence("OFTEN: how often a LAMP was changed in deed.");
-        OneLamp x = of(3, "010");
+        OneLamp x = Due.wall(3, "010");
         x.longest(-1);
         x.wished(3);
         x.game(1);
@@ -526,7 +519,7 @@ public final class EdgesOfThoughtTest {
 
     private static void spentAsItWas() {
         due.sentence("SPENT is by COST as it was.");
-        OneLamp x = of(3, "");
+        OneLamp x = Due.wall(3, "");
         x.cost(0, 0);
         x.cost(1, 9);
         x.change(0);
@@ -548,7 +541,7 @@ public final class EdgesOfThoughtTest {
     private static void least() {
         due.sentence("LEAST: the least COST is the one that is paid most often.");
         for (int n = 1; n <= 10; n++) {
-            OneLamp x = of(n, "");
+            OneLamp x = Due.wall(n, "");
             int nights = (1 << n) - 1;
             due.is(n + " lamps of 1: now(5)", x.now(5), nights);
             x.cost(n - 1, 0);
@@ -566,7 +559,7 @@ public final class EdgesOfThoughtTest {
             x.cost(0, 2);
             due.is(n + " lamps, the first of 2: now(5)", x.now(5), 9 * nights - 7 * (1 << n - 1));
         }
-        OneLamp x = of(3, "");
+        OneLamp x = Due.wall(3, "");
         x.cost(3, 0);
         due.is("none of the wall's: now(5)", x.now(5), 7);
         x.cost(0, 5);
@@ -577,7 +570,7 @@ public final class EdgesOfThoughtTest {
 
     private static void imageKeeps() {
         due.sentence("AN IMAGE keeps LAMPS, PICTURE, NIGHT, HAD, when each LAMP was changed, OFTEN, SPENT, told BARRED ones.");
-        OneLamp x = of(4, "");
+        OneLamp x = Due.wall(4, "");
         x.cost(3, 6);
         Due.change(x, "31");
         x.bar(2);
@@ -607,7 +600,7 @@ public final class EdgesOfThoughtTest {
 
     private static void imageKeepsNotTheRest() {
         due.sentence("All that it keeps is as in THE IMAGE: the NIGHT. STATE: there is none.");
-        OneLamp x = of(3, "");
+        OneLamp x = Due.wall(3, "");
         due.is("back()", x.back(), STATE);
         due.is("image() in night 0", x.image(), 0);
         due.is("back() to night 0", x.back(), 0);
@@ -634,7 +627,7 @@ public final class EdgesOfThoughtTest {
 
     private static void undoneTheLatestFirst() {
         due.sentence("CHANGES (COST) can be UNDONE, the latest first");
-        OneLamp x = of(3, "");
+        OneLamp x = Due.wall(3, "");
         due.is("none: undo()", x.undo(), STATE);
         x.cost(0, 5);
         x.cost(1, 6);
@@ -652,7 +645,7 @@ public final class EdgesOfThoughtTest {
 
     private static void doneAgain() {
         due.sentence("and DONE AGAIN (as long as no other came behind)");
-        OneLamp x = of(3, "");
+        OneLamp x = Due.wall(3, "");
         due.is("none: redo()", x.redo(), STATE);
         x.cost(0, 5);
         x.cost(1, 6);
@@ -679,7 +672,7 @@ public final class EdgesOfThoughtTest {
 
     private static void fortyAreKept() {
         due.sentence("the 41st takes the oldest one's place.");
-        OneLamp x = of(3, "");
+        OneLamp x = Due.wall(3, "");
         x.cost(9, 3);
         for (int k = 1; k < 40; k++) {
             x.cost(k % 3, 1 + (k + 2) / 3 % 9);
@@ -705,7 +698,7 @@ public final class EdgesOfThoughtTest {
 
     private static void sameNumberIsNoChange() {
         due.sentence("Telling the same number is no CHANGE");
-        OneLamp x = of(3, "");
+        OneLamp x = Due.wall(3, "");
         due.is("cost(0, 1)", x.cost(0, 1), 1);
         due.is("count(2)", x.count(2), 0);
         due.is("undo()", x.undo(), STATE);

@@ -19,14 +19,10 @@ public final class NightsTest {
         judgeFinds();
         judgeUnderRules();
         thoughtChangesNothing();
+        everyStepOfFourLamps();
+        allWallsOfThreeLamps();
+        someWallsOfFourLamps();
         due.end();
-    }
-
-    private static OneLamp of(int lamps, String changed) {
-        OneLamp x = new OneLamp();
-        x.lamps(lamps);
-        Due.change(x, changed);
-        return x;
     }
 
     private static void mayAndHad() {
@@ -44,22 +40,22 @@ public final class NightsTest {
         Due.change(x, "2");
         due.is("may() at 7", x.may(), 3);
         due.is("a whole way", Due.change(new OneLamp(), "0102010"), 4);
-        due.is("may() behind it", of(3, "0102010").may(), 0);
-        due.is("may() of 10 lamps", of(10, "").may(), 1023);
-        due.is("may() of 10 lamps", of(10, "9").may(), 511);
-        due.is("may() of 1 lamp", of(1, "").may(), 1);
-        due.is("may() of 1 lamp", of(1, "0").may(), 0);
+        due.is("may() behind it", Due.wall(3, "0102010").may(), 0);
+        due.is("may() of 10 lamps", Due.wall(10, "").may(), 1023);
+        due.is("may() of 10 lamps", Due.wall(10, "9").may(), 511);
+        due.is("may() of 1 lamp", Due.wall(1, "").may(), 1);
+        due.is("may() of 1 lamp", Due.wall(1, "0").may(), 0);
     }
 
     private static void mayAndRest() {
         due.of("promise 13, rest");
-        OneLamp x = of(4, "012");
+        OneLamp x = Due.wall(4, "012");
         int[] want = {11, 11, 9, 8, 8, 8, 8, 8, 8, 8};
         for (int rest = 0; rest < 10; rest++) {
             x.set(0, rest);
             due.is("may() with rest " + rest, x.may(), want[rest]);
         }
-        x = of(4, "01");
+        x = Due.wall(4, "01");
         int[] then = {13, 13, 12, 12};
         for (int rest = 0; rest < 4; rest++) {
             x.set(0, rest);
@@ -71,7 +67,7 @@ public final class NightsTest {
         due.is("change(0) that has rested", x.change(0), 6);
         x.begin(0);
         due.is("none has been changed", x.may(), 15);
-        x = of(3, "");
+        x = Due.wall(3, "");
         x.set(0, 9);
         due.is("all may at the beginning", x.may(), 7);
         x.change(1);
@@ -80,7 +76,7 @@ public final class NightsTest {
 
     private static void mayAndShy() {
         due.of("promise 13, shy");
-        OneLamp x = of(3, "01");
+        OneLamp x = Due.wall(3, "01");
         due.is("not shy", x.may(), 5);
         x.set(1, 1);
         due.is("2 is beside 0", x.may(), 4);
@@ -91,12 +87,12 @@ public final class NightsTest {
         due.is("4 and 2 are beside 0", x.may(), 0);
         x.set(1, 0);
         due.is("not shy", x.may(), 6);
-        x = of(4, "");
+        x = Due.wall(4, "");
         x.set(1, 1);
         due.is("only the one it is at", x.may(), 15);
         Due.change(x, "3");
         due.is("9 10 12 are beside none but 8", x.may(), 7);
-        x = of(10, "98");
+        x = Due.wall(10, "98");
         x.set(1, 1);
         due.is("256 is beside 0", x.may(), 255);
     }
@@ -127,7 +123,7 @@ public final class NightsTest {
         due.is("night", x.now(2), 5);
         due.is("how many had", x.now(3), 6);
         due.is("spent", x.now(4), 11);
-        x = of(10, "");
+        x = Due.wall(10, "");
         due.is("change(9)", x.change(9), 512);
         due.is("change(0)", x.change(0), 513);
         due.is("change(9)", x.change(9), 1);
@@ -147,19 +143,19 @@ public final class NightsTest {
 
     private static void longestWays() {
         due.of("promise 15");
-        isLongest(of(1, ""), "0");
-        isLongest(of(1, "0"), "");
-        isLongest(of(2, ""), "010");
-        isLongest(of(2, "1"), "01");
-        isLongest(of(3, ""), "0102010");
-        isLongest(of(3, "0102"), "010");
-        isLongest(of(3, "012"), "1012");
-        isLongest(of(4, ""), "010201030102010");
-        isLongest(of(4, "3"), "01020103010201");
-        OneLamp x = of(3, "");
+        isLongest(Due.wall(1, ""), "0");
+        isLongest(Due.wall(1, "0"), "");
+        isLongest(Due.wall(2, ""), "010");
+        isLongest(Due.wall(2, "1"), "01");
+        isLongest(Due.wall(3, ""), "0102010");
+        isLongest(Due.wall(3, "0102"), "010");
+        isLongest(Due.wall(3, "012"), "1012");
+        isLongest(Due.wall(4, ""), "010201030102010");
+        isLongest(Due.wall(4, "3"), "01020103010201");
+        OneLamp x = Due.wall(3, "");
         x.begin(5);
         isLongest(x, "0102010");
-        x = of(5, "");
+        x = Due.wall(5, "");
         due.is("5 lamps: longest(-1)", x.longest(-1), STATE);
         due.is("5 lamps: longest(0)", x.longest(0), STATE);
         due.is("5 lamps: longest(99)", x.longest(99), STATE);
@@ -168,7 +164,7 @@ public final class NightsTest {
 
     private static void longestUnderRules() {
         due.of("promise 15, under rules");
-        OneLamp x = of(3, "");
+        OneLamp x = Due.wall(3, "");
         x.bar(1);
         isLongest(x, "102010");
         x.bar(7);
@@ -177,16 +173,16 @@ public final class NightsTest {
         isLongest(x, "20");
         x.bar(4);
         isLongest(x, "");
-        x = of(3, "");
+        x = Due.wall(3, "");
         Due.law(x, "l=3");
         isLongest(x, "010210");
-        x = of(3, "");
+        x = Due.wall(3, "");
         x.set(1, 1);
         isLongest(x, "0120");
-        x = of(4, "");
+        x = Due.wall(4, "");
         x.set(1, 1);
         isLongest(x, "0120310");
-        x = of(3, "");
+        x = Due.wall(3, "");
         x.set(0, 1);
         isLongest(x, "0102010");
         x.set(0, 2);
@@ -195,7 +191,7 @@ public final class NightsTest {
         isLongest(x, "012");
         Due.change(x, "1");
         isLongest(x, "02");
-        x = of(4, "");
+        x = Due.wall(4, "");
         x.set(0, 9);
         isLongest(x, "0123");
     }
@@ -212,18 +208,18 @@ public final class NightsTest {
 
     private static void wished() {
         due.of("promise 16");
-        areWished(of(1, ""), 1, 2);
-        areWished(of(1, "0"), 2);
-        areWished(of(2, ""), 1, 6, 8, 6);
-        areWished(of(2, "1"), 4, 8, 2);
+        areWished(Due.wall(1, ""), 1, 2);
+        areWished(Due.wall(1, "0"), 2);
+        areWished(Due.wall(2, ""), 1, 6, 8, 6);
+        areWished(Due.wall(2, "1"), 4, 8, 2);
         int odd = 1 << 1 | 1 << 2 | 1 << 4 | 1 << 7;
         int even = 1 << 3 | 1 << 5 | 1 << 6;
-        areWished(of(3, ""), 1, 22, even, odd, even, odd, even, odd);
+        areWished(Due.wall(3, ""), 1, 22, even, odd, even, odd, even, odd);
         int odd4 = ~0x9669 & 0xFFFF;
         int even4 = 0x9669 & ~1;
         int two = 1 << 3 | 1 << 5 | 1 << 6 | 1 << 9 | 1 << 10 | 1 << 12;
-        areWished(of(4, ""), 1, 278, two, odd4, even4, odd4, even4, odd4, even4, odd4, even4, odd4, even4, odd4, even4, odd4);
-        OneLamp x = of(3, "");
+        areWished(Due.wall(4, ""), 1, 278, two, odd4, even4, odd4, even4, odd4, even4, odd4, even4, odd4, even4, odd4, even4, odd4);
+        OneLamp x = Due.wall(3, "");
         x.set(1, 1);
         areWished(x, 1, 22, even, 128, even);
         x.set(1, 0);
@@ -237,7 +233,7 @@ public final class NightsTest {
         areWished(x, 1, 20, 64 + 8 + 32, 20, 8 + 32);
         x.begin(1);
         due.is("it is at a barred one", x.wished(0), 2);
-        x = of(5, "");
+        x = Due.wall(5, "");
         for (int t = 0; t < 16; t++) {
             due.is("5 lamps: wished(" + t + ")", x.wished(t), STATE);
         }
@@ -252,23 +248,23 @@ public final class NightsTest {
 
     private static void game() {
         due.of("promise 17");
-        OneLamp x = of(2, "");
+        OneLamp x = Due.wall(2, "");
         for (int what : new int[] {-1, 2, Due.LOW, Due.HIGH}) {
             due.is("game(" + what + ")", x.game(what), BAD);
         }
-        wins(of(1, ""), 0);
-        wins(of(1, "0"), NOT);
-        wins(of(2, ""), 0);
-        wins(of(2, "0"), NOT);
-        wins(of(2, "01"), 0);
-        wins(of(2, "10"), 1);
-        wins(of(2, "010"), NOT);
-        wins(of(3, ""), 0);
-        wins(of(3, "0"), NOT);
-        wins(of(4, ""), 0);
-        wins(of(4, "0"), NOT);
-        wins(of(4, "012"), NOT);
-        x = of(5, "");
+        wins(Due.wall(1, ""), 0);
+        wins(Due.wall(1, "0"), NOT);
+        wins(Due.wall(2, ""), 0);
+        wins(Due.wall(2, "0"), NOT);
+        wins(Due.wall(2, "01"), 0);
+        wins(Due.wall(2, "10"), 1);
+        wins(Due.wall(2, "010"), NOT);
+        wins(Due.wall(3, ""), 0);
+        wins(Due.wall(3, "0"), NOT);
+        wins(Due.wall(4, ""), 0);
+        wins(Due.wall(4, "0"), NOT);
+        wins(Due.wall(4, "012"), NOT);
+        x = Due.wall(5, "");
         due.is("5 lamps: game(0)", x.game(0), STATE);
         due.is("5 lamps: game(1)", x.game(1), STATE);
         due.is("5 lamps: game(2)", x.game(2), BAD);
@@ -277,7 +273,7 @@ public final class NightsTest {
 
     private static void gameUnderRules() {
         due.of("promise 17, under rules");
-        OneLamp x = of(3, "");
+        OneLamp x = Due.wall(3, "");
         Due.law(x, "p=2|p>4");
         wins(x, 2);
         x.bar(4);
@@ -286,7 +282,7 @@ public final class NightsTest {
         wins(x, 0);
         x.bar(1);
         wins(x, NOT);
-        x = of(3, "");
+        x = Due.wall(3, "");
         x.set(1, 1);
         wins(x, NOT);
         x.set(0, 2);
@@ -297,19 +293,19 @@ public final class NightsTest {
         wins(x, 0);
         Due.change(x, "0");
         wins(x, NOT);
-        x = of(2, "");
+        x = Due.wall(2, "");
         x.set(0, 2);
         wins(x, NOT);
         x.change(1);
         wins(x, 0);
-        x = of(4, "");
+        x = Due.wall(4, "");
         x.set(0, 9);
         wins(x, NOT);
     }
 
     private static void waysOfFewLamps() {
         due.of("promise 18");
-        OneLamp x = of(3, "");
+        OneLamp x = Due.wall(3, "");
         int[][] refused = {{-1, 0}, {8, 0}, {0, -1}, {0, 6}, {8, 6}, {Due.LOW, 1}, {Due.HIGH, 1}, {1, Due.HIGH},
             {1, Due.LOW}};
         for (int[] pair : refused) {
@@ -327,7 +323,7 @@ public final class NightsTest {
         due.is("ways(1, 1) with 1 barred", x.ways(1, 1), 0);
         x.begin(1);
         due.is("ways(1, 0) at a barred one", x.ways(1, 0), 1);
-        x = of(3, "0");
+        x = Due.wall(3, "0");
         due.is("ways(0, 1), had", x.ways(0, 1), 0);
         due.is("ways(2, 2)", x.ways(2, 2), 1);
         due.is("ways(1, 0)", x.ways(1, 0), 1);
@@ -360,7 +356,7 @@ public final class NightsTest {
 
     private static void waysOfManyLamps() {
         due.of("promise 18, many lamps");
-        OneLamp x = of(10, "");
+        OneLamp x = Due.wall(10, "");
         due.is("ways(0, 0)", x.ways(0, 0), 1);
         due.is("ways(512, 0)", x.ways(512, 0), 0);
         due.is("ways(512, 1)", x.ways(512, 1), 1);
@@ -475,9 +471,76 @@ public final class NightsTest {
         due.is("lamp(1, 2)", x.lamp(1, 2), 2);
     }
 
+    /** Nothing is free but two pictures, each beside the one ahead: the ways there are the only ones. */
+    private static void everyStepOfFourLamps() {
+        due.of("promises 13 to 18, one way");
+        for (int p = 0; p < 16; p++) {
+            for (int first = 0; first < 4; first++) {
+                for (int second = 0; second < 4; second++) {
+                    int next = p ^ 1 << first;
+                    int last = next ^ 1 << second;
+                    OneLamp x = Due.wall(4, "");
+                    Due.law(x, "!(p=" + next + "|p=" + last + ")");
+                    x.begin(p);
+                    boolean two = first != second;
+                    due.is("may()", x.may(), 1 << first);
+                    due.is("longest(-1)", x.longest(-1), two ? 2 : 1);
+                    due.is("longest(0)", x.longest(0), first);
+                    due.is("longest(1)", x.longest(1), two ? second : BAD);
+                    due.is("wished(1)", x.wished(1), 1 << next);
+                    due.is("wished(2)", x.wished(2), two ? 1 << last : 0);
+                    due.is("game(1)", x.game(1), two ? NOT : first);
+                    due.is("ways(" + last + ", 2)", x.ways(last, 2), two ? 1 : 0);
+                }
+            }
+        }
+    }
+
+    private static void allWallsOfThreeLamps() {
+        due.of("promises 15 to 17, all walls of three lamps");
+        for (int barred = 0; barred < 256; barred++) {
+            for (int p = 0; p < 8; p++) {
+                isThought(3, barred, p);
+            }
+        }
+    }
+
+    private static void someWallsOfFourLamps() {
+        due.of("promises 15 to 17, walls of four lamps");
+        for (int barred = 0; barred < 65536; barred += 97) {
+            if (Integer.bitCount(barred) > 4) {
+                isThought(4, barred, barred / 97 % 16);
+            }
+        }
+    }
+
+    /** Thought about a wall with these pictures barred, held against the Model. */
+    private static void isThought(int lamps, int barred, int picture) {
+        OneLamp x = Due.wall(lamps, "");
+        Model model = new Model();
+        model.lamps(lamps);
+        for (int p = 0; p < 1 << lamps; p++) {
+            if ((barred >> p & 1) == 1) {
+                x.bar(p);
+                model.bar(p);
+            }
+        }
+        x.begin(picture);
+        model.begin(picture);
+        String wall = " at " + picture + " of " + lamps + " lamps, barred " + barred;
+        int nights = model.longest(-1);
+        for (int i = -1; i <= nights; i++) {
+            due.is("longest(" + i + ")" + wall, x.longest(i), i == -1 ? nights : model.longest(i));
+        }
+        for (int t = 0; t <= nights + 1 && t <= 15; t++) {
+            due.is("wished(" + t + ")" + wall, x.wished(t), model.wished(t));
+        }
+        due.is("game(1)" + wall, x.game(1), model.game(1));
+    }
+
     private static void thoughtChangesNothing() {
         due.of("thought");
-        OneLamp x = of(4, "01");
+        OneLamp x = Due.wall(4, "01");
         x.bar(2);
         x.cost(1, 3);
         Due.row(x, 0, 1, 0, 4, 5);
