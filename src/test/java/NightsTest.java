@@ -19,6 +19,7 @@ public final class NightsTest {
         judgeFinds();
         judgeUnderRules();
         thoughtChangesNothing();
+        thoughtFollowsEveryChange();
         everyStepOfFourLamps();
         allWallsOfThreeLamps();
         someWallsOfFourLamps();
@@ -469,6 +470,50 @@ public final class NightsTest {
         due.is("the wall is as it was", x.now(1), 3);
         due.is("its nights, too", x.now(2), 2);
         due.is("lamp(1, 2)", x.lamp(1, 2), 2);
+    }
+
+    /** Asked ahead of each change and behind it, so that nothing thought earlier is answered again. */
+    private static void thoughtFollowsEveryChange() {
+        due.of("promises 13 to 19, from now");
+        OneLamp x = Due.wall(2, "");
+        Due.row(x, 0, 1, 0, 1, 3);
+        Due.row(x, 1, 1, 3);
+        int[] free = {3, 3, 8, 0, 2, NOT};
+        areThought(x, "at first", free);
+        x.image();
+        x.change(0);
+        areThought(x, "change(0)", 2, 2, 4, NOT, 0, NOT);
+        x.back();
+        areThought(x, "back()", free);
+        x.bar(1);
+        areThought(x, "bar(1)", 2, 2, 8, NOT, 1, 1);
+        x.begin(3);
+        areThought(x, "begin(3)", 1, 2, 1, NOT, 0, 1);
+        x.lamps(2);
+        areThought(x, "lamps(2)", free);
+        Due.law(x, "p=2");
+        areThought(x, "law p=2", 1, 2, 8, NOT, 1, NOT);
+        Due.law(x, "0");
+        areThought(x, "law 0", free);
+        x.set(0, 2);
+        areThought(x, "rest 2", 3, 2, 8, NOT, 2, NOT);
+        x.set(0, 0);
+        areThought(x, "rest 0", free);
+        x.set(1, 1);
+        areThought(x, "shy", 3, 2, 8, NOT, 2, NOT);
+        x.set(1, 0);
+        areThought(x, "not shy", free);
+        x.bars(1, 0, 1);
+        areThought(x, "bars of 3", 3, 1, 0, 0, 0, 2);
+    }
+
+    private static void areThought(OneLamp x, String behind, int... want) {
+        due.is(behind + ": may()", x.may(), want[0]);
+        due.is(behind + ": longest(-1)", x.longest(-1), want[1]);
+        due.is(behind + ": wished(2)", x.wished(2), want[2]);
+        due.is(behind + ": game(1)", x.game(1), want[3]);
+        due.is(behind + ": ways(3, 2)", x.ways(3, 2), want[4]);
+        due.is(behind + ": judge(0)", x.judge(0), want[5]);
     }
 
     /** Nothing is free but two pictures, each beside the one ahead: the ways there are the only ones. */
