@@ -5,6 +5,7 @@ import java.nio.file.Path;
 /** Counts the calls whose answer is not the one that is due. */
 final class Due {
     private static final Path DOCUMENT = Path.of("../shared/DOC.md");
+    private static final long MOST_SECONDS = 300;
     static final int BAD = -1, NOT = -2, FULL = -3, STATE = -5;
     static final int LOW = Integer.MIN_VALUE, HIGH = Integer.MAX_VALUE;
 
@@ -16,6 +17,20 @@ final class Due {
 
     Due(String title) {
         this.title = title;
+        Thread watch = new Thread(this::endTooLong);
+        watch.setDaemon(true);
+        watch.start();
+    }
+
+    /** A call that does not end is wrong, too. */
+    private void endTooLong() {
+        try {
+            Thread.sleep(MOST_SECONDS * 1000);
+            System.out.println(title + ": " + part + "does not end");
+            Runtime.getRuntime().halt(1);
+        } catch (InterruptedException ended) {
+            Thread.currentThread().interrupt();
+        }
     }
 
     /** What is asked from here on: a promise, or a part of it. */
