@@ -191,7 +191,7 @@ public final class EdgesOfTheLawTest {
         due.sentence("O = a number (1 to 4 digits)");
         OneLamp x = Due.wall(10, "");
         for (int number = 0; number < 1024; number++) {
-            if (number % 40 == 0) {
+            if (number % 30 == 0) {
                 x = Due.wall(10, "");
             }
             due.is("law", Due.law(x, "p=" + number), 1);
